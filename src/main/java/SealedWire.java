@@ -60,7 +60,7 @@ public final class SealedWire {
     private final Digest digest = new Digest();
     private final Cipher cipher = new Cipher();
     private final Sealer sealer = new Sealer();
-    private final Talk talk = new Talk(curve, digest, new Envelope(cipher, sealer));
+    private final Talk talk = new Talk();
 
     public SealedWire() {
     }
@@ -119,7 +119,8 @@ public final class SealedWire {
             throw new IllegalArgumentException();
         }
         taken.copyTo(0, first);
-        sealer.over(taken, ROW, first, seal);
+        sealer.takeKey(first);
+        sealer.over(taken, ROW, seal);
         output.become(seal);
     }
 
@@ -152,7 +153,10 @@ public final class SealedWire {
     }
 
     public int come(int end) throws NoSuchElementException {
-        return talk.arrive(endAt(end));
+        End who = endAt(end);
+        int kind = talk.accept(who);
+        talk.answer(who, kind);
+        return kind;
     }
 
     public int run(int n) throws IllegalArgumentException {
@@ -163,7 +167,9 @@ public final class SealedWire {
         // Two turns a packet are enough, as one of the two ends has a packet as long as it goes on.
         for (int turn = 0; turn < 2 * n && count < n; turn++) {
             End who = turn % 2 == 0 ? talk.server : talk.client;
-            if (talk.arrive(who) != NO_PACKET) {
+            int kind = talk.accept(who);
+            talk.answer(who, kind);
+            if (kind != NO_PACKET) {
                 count++;
             }
         }
@@ -390,10 +396,13 @@ public final class SealedWire {
         }
 
         void scale(long[] product, long[] x, int factor) {
+            long carried = 0;
             for (int i = 0; i < limbs; i++) {
-                product[i] = x[i] * factor;
+                carried += x[i] * factor;
+                product[i] = carried & MASK;
+                carried >>= LIMB;
             }
-            wrap(product);
+            product[0] += wideFold * carried;
         }
 
         /** The product may be one of the factors. */
@@ -422,33 +431,31 @@ public final class SealedWire {
 
         /** Brings x to the one form that is at least 0 and below the modulus. */
         void reduce(long[] x) {
-            wrap(x);
-            wrap(x);
-            // Now 0 <= x < 2^bits: with fold added it goes beyond just when x is the modulus or more.
-            x[0] += fold;
-            if (carry(x) == 0) {
-                x[0] -= fold;
-                carry(x);
+            int last = limbs - 1;
+            long topMask = (1L << topBits) - 1;
+            // After the first pass x is less than a few thousand beyond the bounds 0 and 2^bits.
+            for (int pass = 0; pass < 2; pass++) {
+                long carried = 0;
+                for (int i = 0; i < last; i++) {
+                    carried += x[i];
+                    x[i] = carried & MASK;
+                    carried >>= LIMB;
+                }
+                carried += x[last];
+                x[last] = carried & topMask;
+                x[0] += fold * (carried >> topBits);
             }
-        }
-
-        private void wrap(long[] x) {
-            // Not in one line with the sum: the carry changes x[0], which a sum would have read before.
-            long beyond = carry(x);
-            x[0] += fold * beyond;
-        }
-
-        /** Answers what goes beyond 2^bits, and cuts it off. */
-        private long carry(long[] x) {
-            long carried = 0;
-            for (int i = 0; i < limbs - 1; i++) {
-                carried += x[i];
-                x[i] = carried & MASK;
-                carried >>= LIMB;
+            boolean full = x[0] > MASK - fold && x[last] == topMask;
+            for (int i = 1; i < last; i++) {
+                full = full && x[i] == MASK;
             }
-            carried += x[limbs - 1];
-            x[limbs - 1] = carried & ((1L << topBits) - 1);
-            return carried >> topBits;
+            if (full) {
+                // Between the modulus and 2^bits all limbs but the lowest are those of the modulus.
+                x[0] -= MASK + 1 - fold;
+                for (int i = 1; i < limbs; i++) {
+                    x[i] = 0;
+                }
+            }
         }
     }
 
@@ -652,10 +659,13 @@ public final class SealedWire {
         private final int[] start = new int[16];
         private final int[] words = new int[16];
 
-        /** Of the key the first 32 bytes count; the block gets 64. */
         void fill(int[] key, long nonce, int counter, int[] block) {
-            takeStart(key, nonce, counter);
-            Row.copy(start, words);
+            takeKey(key);
+            start[12] = counter;
+            start[13] = 0;
+            start[14] = Integer.reverseBytes((int) (nonce >>> 32));
+            start[15] = Integer.reverseBytes((int) nonce);
+            System.arraycopy(start, 0, words, 0, start.length);
             for (int round = 0; round < 10; round++) {
                 for (int q = 0; q < QUARTERS.length; q += 4) {
                     quarter(QUARTERS[q], QUARTERS[q + 1], QUARTERS[q + 2], QUARTERS[q + 3]);
@@ -667,7 +677,7 @@ public final class SealedWire {
             }
         }
 
-        private void takeStart(int[] key, long nonce, int counter) {
+        private void takeKey(int[] key) {
             start[0] = 0x61707865;
             start[1] = 0x3320646e;
             start[2] = 0x79622d32;
@@ -676,10 +686,6 @@ public final class SealedWire {
                 int at = 4 * i;
                 start[4 + i] = key[at] | key[at + 1] << 8 | key[at + 2] << 16 | key[at + 3] << 24;
             }
-            start[12] = counter;
-            start[13] = 0;
-            start[14] = Integer.reverseBytes((int) (nonce >>> 32));
-            start[15] = Integer.reverseBytes((int) nonce);
         }
 
         private void quarter(int a, int b, int c, int d) {
@@ -703,10 +709,20 @@ public final class SealedWire {
         private final Field field = new Field(130, 5);
         private final long[] r = field.zero();
         private final long[] q = field.zero();
+        private final int[] s = new int[TAG];
 
-        /** Of the row all counts that stands from 'from' on, of the key the first 32 bytes. */
-        void over(Row row, int from, int[] key, int[] result) {
-            takeFactor(key);
+        /** The first 32 bytes count. */
+        void takeKey(int[] key) {
+            Arrays.fill(r, 0);
+            for (int i = 0; i < TAG; i++) {
+                int kept = i % 4 == 3 ? 15 : i % 4 == 0 && i > 0 ? 252 : 255;
+                field.addByte(r, i, key[i] & kept);
+                s[i] = key[TAG + i];
+            }
+        }
+
+        /** Of the row all counts that stands from 'from' on. */
+        void over(Row row, int from, int[] result) {
             Arrays.fill(q, 0);
             for (int at = from; at < row.length; at += TAG) {
                 int size = Math.min(TAG, row.length - at);
@@ -719,17 +735,9 @@ public final class SealedWire {
             field.reduce(q);
             int sum = 0;
             for (int i = 0; i < TAG; i++) {
-                sum += field.byteAt(q, i) + key[TAG + i];
+                sum += field.byteAt(q, i) + s[i];
                 result[i] = sum & 255;
                 sum >>= 8;
-            }
-        }
-
-        private void takeFactor(int[] key) {
-            Arrays.fill(r, 0);
-            for (int i = 0; i < TAG; i++) {
-                int kept = i % 4 == 3 ? 15 : i % 4 == 0 && i > 0 ? 252 : 255;
-                field.addByte(r, i, key[i] & kept);
             }
         }
     }
@@ -749,17 +757,12 @@ public final class SealedWire {
 
     /** Makes packets of payloads, and payloads of packets. */
     private static final class Envelope {
-        private final Cipher cipher;
-        private final Sealer sealer;
+        private final Cipher cipher = new Cipher();
+        private final Sealer sealer = new Sealer();
         private final int[] block = new int[BLOCK];
         private final int[] due = new int[TAG];
         private final int[] given = new int[TAG];
         private final Row opened = new Row(PACKET_LIMIT);
-
-        Envelope(Cipher cipher, Sealer sealer) {
-            this.cipher = cipher;
-            this.sealer = sealer;
-        }
 
         void wrap(Row payload, Keys keys, int sequence, Row packet) {
             int padding = paddingFor(payload.length, keys.made);
@@ -845,7 +848,8 @@ public final class SealedWire {
 
         private void makeTag(Row row, Keys keys, int sequence) {
             cipher.fill(keys.body, sequence, 0, block);
-            sealer.over(row, 0, block, due);
+            sealer.takeKey(block);
+            sealer.over(row, 0, due);
         }
     }
 
@@ -862,6 +866,11 @@ public final class SealedWire {
         boolean hadRequest;
         boolean gotReply;
         boolean sentNew;
+
+        void takeInit(Row payload) {
+            payload.copyTo(0, otherInit);
+            gotInit = true;
+        }
 
         void forget() {
             sentInit = false;
@@ -958,9 +967,9 @@ public final class SealedWire {
         final End client = new End(true);
         final End server = new End(false);
 
-        private final Curve curve;
-        private final Digest digest;
-        private final Envelope envelope;
+        private final Curve curve = new Curve();
+        private final Digest digest = new Digest();
+        private final Envelope envelope = new Envelope();
 
         private final int[] hostSecret = new int[ROW];
         private final int[] trusted = new int[ROW];
@@ -975,12 +984,6 @@ public final class SealedWire {
         private final Row message = new Row(PAYLOAD_LIMIT);
         private final Row arrived = new Row(PAYLOAD_LIMIT);
         private final Row hashed = new Row(2 * INIT_SIZE + 4 * ROW);
-
-        Talk(Curve curve, Digest digest, Envelope envelope) {
-            this.curve = curve;
-            this.digest = digest;
-            this.envelope = envelope;
-        }
 
         int[] setting(int what) {
             switch (what) {
@@ -1018,7 +1021,8 @@ public final class SealedWire {
             transmit(end, message);
         }
 
-        int arrive(End end) {
+        /** Takes the first packet to an end off the wire: its message, or why it has none that counts. */
+        int accept(End end) {
             if (end.waiting == 0) {
                 return NO_PACKET;
             }
@@ -1026,34 +1030,50 @@ public final class SealedWire {
             if (!end.lives) {
                 return GONE;
             }
-            int sequence = end.came;
             end.came++;
-            if (!envelope.unwrap(packet, end.incoming, sequence, arrived)) {
-                quit(end);
+            if (!envelope.unwrap(packet, end.incoming, end.came - 1, arrived)) {
                 return BROKEN;
             }
             int kind = arrived.bytes[0];
-            if (!end.isInPlace(kind, arrived.length)) {
-                quit(end);
-                return MISPLACED;
-            }
+            return end.isInPlace(kind, arrived.length) ? kind : MISPLACED;
+        }
+
+        /** Does what the end must do upon that which it has just accepted. */
+        void answer(End end, int kind) {
             switch (kind) {
+                case NO_PACKET:
+                case GONE:
+                case IGNORE:
+                    break;
+                case BROKEN:
+                case MISPLACED:
+                    quit(end);
+                    break;
                 case END:
                     end.lives = false;
-                    break;
-                case IGNORE:
                     break;
                 case UNKNOWN:
                     end.lastUnknown = arrived.length == UNKNOWN_SIZE ? arrived.bigAt(1) : -1;
                     break;
                 case INIT:
-                    takeInit(end);
+                    end.exchange.takeInit(arrived);
+                    if (!end.exchange.sentInit) {
+                        sendInit(end);
+                    }
+                    if (end.isClient) {
+                        sendRequest();
+                    }
                     break;
                 case REQUEST:
-                    takeRequest();
+                    sendReply();
+                    sendNew(server);
                     break;
                 case REPLY:
-                    takeReply();
+                    if (isReplyGood()) {
+                        sendNew(client);
+                    } else {
+                        quit(client);
+                    }
                     break;
                 case NEW:
                     end.finishExchange();
@@ -1062,10 +1082,9 @@ public final class SealedWire {
                     end.received.addFrom(arrived, 1);
                     break;
                 default:
-                    sendUnknown(end, sequence);
+                    sendUnknown(end);
                     break;
             }
-            return kind;
         }
 
         private void quit(End end) {
@@ -1075,36 +1094,25 @@ public final class SealedWire {
             end.lives = false;
         }
 
-        private void sendUnknown(End end, int sequence) {
+        private void sendUnknown(End end) {
             message.empty();
             message.add(UNKNOWN);
-            message.addBig(sequence);
+            message.addBig(end.came - 1);
             transmit(end, message);
-        }
-
-        private void takeInit(End end) {
-            arrived.copyTo(0, end.exchange.otherInit);
-            end.exchange.gotInit = true;
-            if (!end.exchange.sentInit) {
-                sendInit(end);
-            }
-            if (end.isClient) {
-                sendRequest();
-            }
         }
 
         private void sendRequest() {
             Exchange exchange = client.exchange;
+            exchange.hadRequest = true;
             Row.copy(client.secret, exchange.secret);
             curve.publicRow(exchange.secret, exchange.ownPublic);
-            exchange.hadRequest = true;
             message.empty();
             message.add(REQUEST);
             message.addAll(exchange.ownPublic);
             transmit(client, message);
         }
 
-        private void takeRequest() {
+        private void sendReply() {
             Exchange exchange = server.exchange;
             exchange.hadRequest = true;
             arrived.copyTo(1, exchange.otherPublic);
@@ -1112,7 +1120,6 @@ public final class SealedWire {
             curve.publicRow(exchange.secret, exchange.ownPublic);
             curve.publicRow(hostSecret, hostRow);
             agree(server);
-            server.keepSession(agreed);
             makeProof(hostSecret, exchange.otherPublic);
             message.empty();
             message.add(REPLY);
@@ -1120,10 +1127,9 @@ public final class SealedWire {
             message.addAll(exchange.ownPublic);
             message.addAll(due);
             transmit(server, message);
-            sendNew(server);
         }
 
-        private void takeReply() {
+        private boolean isReplyGood() {
             Exchange exchange = client.exchange;
             exchange.gotReply = true;
             arrived.copyTo(1, hostRow);
@@ -1131,20 +1137,16 @@ public final class SealedWire {
             arrived.copyTo(1 + 2 * ROW, proof);
             agree(client);
             makeProof(exchange.secret, hostRow);
-            if (!Row.same(hostRow, trusted) || !Row.same(proof, due)) {
-                quit(client);
-                return;
-            }
-            client.keepSession(agreed);
-            sendNew(client);
+            return Row.same(hostRow, trusted) && Row.same(proof, due);
         }
 
-        /** NEW itself still goes by the old keys. */
+        /** NEW itself still goes by the old keys; SHARED and H of the exchange have just been made. */
         private void sendNew(End end) {
             message.empty();
             message.add(NEW);
             transmit(end, message);
             end.exchange.sentNew = true;
+            end.keepSession(agreed);
             makeKeys(end);
         }
 
