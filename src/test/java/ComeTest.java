@@ -254,8 +254,22 @@ public final class ComeTest {
         }
         Kit.same("the server is passed", wire.run(4), 4);
         Kit.same("the last one", wire.run(50), 1);
+        runInTurn();
         runToAnEndThatEnded();
         runOfUnknowns();
+    }
+
+    private static void runInTurn() {
+        for (int n = 0; n <= 12; n++) {
+            SealedWire wire = new SealedWire();
+            for (int i = 0; i < 6; i++) {
+                Kit.send(wire, CLIENT, Scene.DATA);
+                Kit.send(wire, SERVER, Scene.DATA);
+            }
+            Kit.same("so many came", wire.run(n), n);
+            Kit.same("to the server", wire.about(SERVER, 2), (n + 1) / 2);
+            Kit.same("to the client", wire.about(CLIENT, 2), n / 2);
+        }
     }
 
     private static void runToAnEndThatEnded() {

@@ -175,6 +175,10 @@ public final class PacketTest {
         other.run(50);
         Kit.same("both live", other.about(CLIENT, 0) + other.about(SERVER, 0), 2);
 
+        other.begin(CLIENT);
+        other.type(94, 1);
+        Kit.thrown("the NEW of the exchange before does not count", () -> other.send(CLIENT), Kit.STATE);
+
         SealedWire third = Scene.ready();
         third.begin(SERVER);
         third.type(1, 1);

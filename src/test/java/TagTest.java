@@ -8,12 +8,23 @@ public final class TagTest {
         wellKnown();
         everySize();
         edges();
+        sumsNearTheModulus();
         for (int n : new int[] {0, 1, 31}) {
             SealedWire wire = new SealedWire();
             Kit.type(wire, new byte[n]);
             Kit.thrown("tag of " + n, wire::tag, Kit.ARGUMENT);
         }
         Kit.finish();
+    }
+
+    private static void sumsNearTheModulus() {
+        BigInteger top = BigInteger.TWO.pow(130);
+        for (int i = 2; i < 40; i++) {
+            sumIs(top.subtract(BigInteger.valueOf(i)));
+        }
+        for (int bit = 3; bit < 128; bit++) {
+            sumIs(top.subtract(BigInteger.TWO).subtract(BigInteger.ONE.shiftLeft(bit)));
+        }
     }
 
     private static byte[] tag(byte[] key, byte[] row) {
@@ -71,6 +82,14 @@ public final class TagTest {
                 }
             }
         }
+    }
+
+    /** With the factor 1 the sum of two numbers comes out: just what is asked for, below 2^130. */
+    private static void sumIs(BigInteger sum) {
+        BigInteger both = sum.subtract(BigInteger.TWO.pow(129));
+        BigInteger one = both.shiftRight(1);
+        byte[] row = Kit.join(Oracle.littleRow(one, 16), Oracle.littleRow(both.subtract(one), 16));
+        check("the sum " + sum, Kit.join(Kit.bytes(1), new byte[31]), row);
     }
 
     private static byte[] most(int count) {
