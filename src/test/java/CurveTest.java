@@ -9,6 +9,7 @@ public final class CurveTest {
         wellKnown();
         edges();
         random();
+        rareCarries();
         chain();
         wrongSizes();
         Kit.finish();
@@ -66,6 +67,18 @@ public final class CurveTest {
             random.nextBytes(u);
             Kit.same("random " + i, multiply(k, u), Oracle.multiply(k, u));
         }
+    }
+
+    /** Results that are brought below P only when a carry out of their lowest 26 bits is followed up. */
+    private static void rareCarries() {
+        Kit.same("first carry",
+                multiply(Kit.hex("bbea457286d19ac0051bcca1d4238c18443c7e202d2a939ba25fdf8d1cdcf70d"),
+                        Kit.hex("59aeb47b0296b98ea644b56b68830b50608e74d7ef2030b69618bc83c9952080")),
+                Kit.hex("2f0000181dd750c6f8d6092d5e7f15fbcd33f1ee6c5de86825ab1b90ee845937"));
+        Kit.same("second carry",
+                multiply(Kit.hex("e642f9fdc26ea7a890c0173c71dc474b44c1b548dde5187b23bab48d8cca6996"),
+                        Kit.hex("d738af95a0cfdfffefacc309eefaa11353a20ab367fa336b502fa9db740f452e")),
+                Kit.hex("25000060e25d0854ea2528d3d83df625daf07bd83af052c4c38e5a085b937279"));
     }
 
     /** RFC 7748, 5.2: a thousand times the result is the next scalar, the scalar the next point. */

@@ -18,8 +18,14 @@ final class Kit {
 
     private static int checks = 0;
     private static int wrong = 0;
+    private static String sentence = "";
 
     private Kit() {
+    }
+
+    /** Whatever is wrong from here on is told with these words of the document. */
+    static void sentence(String words) {
+        sentence = "\"" + words + "\"\n    ";
     }
 
     static void same(String what, long got, long want) {
@@ -42,18 +48,22 @@ final class Kit {
         checks++;
         if (!got.equals(want)) {
             wrong++;
-            System.out.println(what + ": got " + got + ", due is " + want);
+            System.out.println(sentence + what + ": got " + got + ", due is " + want);
         }
     }
 
-    static void thrown(String what, Call call, String want) {
-        String got = NONE;
+    /** The name of what a call throws. */
+    static String answer(Call call) {
         try {
             call.make();
         } catch (RuntimeException e) {
-            got = e.getClass().getSimpleName();
+            return e.getClass().getSimpleName();
         }
-        report(what + " throws", got, want);
+        return NONE;
+    }
+
+    static void thrown(String what, Call call, String want) {
+        report(what + " throws", answer(call), want);
     }
 
     static void finish() {

@@ -111,12 +111,18 @@ final class Oracle {
         while ((1 + payload.length + p) % 8 != 0) {
             p++;
         }
-        byte[] row = xor(framed(payload, p), keys, sequence);
+        return sealed(framed(payload, p), keys, sequence);
+    }
+
+    /** Hides any row and puts the right tag behind it. */
+    static byte[] sealed(byte[] open, byte[][] keys, long sequence) {
+        byte[] row = xor(open, keys, sequence);
         byte[] key = Arrays.copyOf(stream(keys[1], sequence, 0), 32);
         return Kit.join(row, tag(key, row));
     }
 
-    private static byte[] framed(byte[] payload, int p) {
+    /** n, p, the payload and the zeros, whether p is the right number or not. */
+    static byte[] framed(byte[] payload, int p) {
         int n = 1 + payload.length + p;
         return Kit.join(Kit.bytes(0, 0, n >> 8, n, p), payload, new byte[p]);
     }

@@ -75,6 +75,14 @@ final class Scene {
         return keys(end, shared(CLIENT_SECRET, SERVER_SECRET), firstH(), firstH());
     }
 
+    /** Puts another packet of the same size in the place of the k-th one to an end. */
+    static void replace(SealedWire wire, int end, int k, byte[] packet) {
+        Kit.same("the size of what is replaced", wire.packet(end, k, -1), packet.length);
+        for (int i = 0; i < packet.length; i++) {
+            wire.damage(end, k, i, wire.packet(end, k, i) ^ packet[i] & 255);
+        }
+    }
+
     /** Makes of the k-th packet to an end, which is without keys, one of another payload of the same size. */
     static void forge(SealedWire wire, int end, int k, byte[] payload) {
         for (int i = 0; i < payload.length; i++) {
