@@ -1129,15 +1129,19 @@ public final class SealedWire {
             transmit(server, message);
         }
 
+        /** The row comes before the proof: a client that ends at the row has made no H, so it has no SESSION. */
         private boolean isReplyGood() {
             Exchange exchange = client.exchange;
             exchange.gotReply = true;
             arrived.copyTo(1, hostRow);
+            if (!Row.same(hostRow, trusted)) {
+                return false;
+            }
             arrived.copyTo(1 + ROW, exchange.otherPublic);
             arrived.copyTo(1 + 2 * ROW, proof);
             agree(client);
             makeProof(exchange.secret, hostRow);
-            return Row.same(hostRow, trusted) && Row.same(proof, due);
+            return Row.same(proof, due);
         }
 
         /** NEW itself still goes by the old keys; SHARED and H of the exchange have just been made. */
