@@ -1069,7 +1069,7 @@ public final class SealedWire {
                     sendNew(server);
                     break;
                 case REPLY:
-                    if (isReplyGood()) {
+                    if (takeReply()) {
                         sendNew(client);
                     } else {
                         quit(client);
@@ -1120,6 +1120,7 @@ public final class SealedWire {
             curve.publicRow(exchange.secret, exchange.ownPublic);
             curve.publicRow(hostSecret, hostRow);
             agree(server);
+            server.keepSession(agreed);
             makeProof(hostSecret, exchange.otherPublic);
             message.empty();
             message.add(REPLY);
@@ -1129,19 +1130,20 @@ public final class SealedWire {
             transmit(server, message);
         }
 
-        /** The row comes before the proof: a client that ends at the row has made no H, so it has no SESSION. */
-        private boolean isReplyGood() {
+        /** Whether the client goes on. Its SESSION asks for the right proof alone, not for a row that it trusts. */
+        private boolean takeReply() {
             Exchange exchange = client.exchange;
             exchange.gotReply = true;
             arrived.copyTo(1, hostRow);
-            if (!Row.same(hostRow, trusted)) {
-                return false;
-            }
             arrived.copyTo(1 + ROW, exchange.otherPublic);
             arrived.copyTo(1 + 2 * ROW, proof);
             agree(client);
             makeProof(exchange.secret, hostRow);
-            return Row.same(proof, due);
+            if (!Row.same(proof, due)) {
+                return false;
+            }
+            client.keepSession(agreed);
+            return Row.same(hostRow, trusted);
         }
 
         /** NEW itself still goes by the old keys; SHARED and H of the exchange have just been made. */
@@ -1150,7 +1152,6 @@ public final class SealedWire {
             message.add(NEW);
             transmit(end, message);
             end.exchange.sentNew = true;
-            end.keepSession(agreed);
             makeKeys(end);
         }
 

@@ -12,7 +12,10 @@ public final class ExchangeEdgeTest {
         cookiesAtOnce();
         otherRow();
         otherProof();
-        sessionOfARefusedReply();
+        sessionOfAnUntrustedRow();
+        sessionWithTheRowOfReply();
+        sessionOfARefusalOnAFullWire();
+        sessionOfASecondRefusal();
         sessionOfAWrongProof();
         sessionIsTheFirst();
         sessionBounds();
@@ -193,28 +196,79 @@ public final class ExchangeEdgeTest {
         wire.damage(CLIENT, 0, 70, 255);
     }
 
-    /**
-     * The row is looked at first, then the proof: a client that ends at the row makes no H, and has no SESSION.
-     * The server has had its own since REQUEST.
-     */
-    private static void sessionOfARefusedReply() {
+    /** The sentence asks for the proof alone: a client that ends at a row which it does not trust has its SESSION. */
+    private static void sessionOfAnUntrustedRow() {
         Kit.sentence("The first H that an end has (the client: if the proof was right) is its SESSION");
+        for (int bit : new int[] {0, 127, 255}) {
+            SealedWire wire = replied();
+            Kit.set(wire, 3, flipped(Scene.HOST_ROW, bit));
+            Kit.thrown("none before REPLY comes", () -> wire.session(CLIENT, 0), Kit.STATE);
+            refused("an untrusted row", wire);
+            Kit.same("the client's", Kit.session(wire, CLIENT), Scene.firstH());
+            Kit.same("the server's", Kit.session(wire, SERVER), Scene.firstH());
+            Kit.same("END comes", wire.come(SERVER), 1);
+            Kit.same("NEW is gone", wire.come(CLIENT), -4);
+            Kit.same("it stays", Kit.session(wire, CLIENT), Scene.firstH());
+        }
+        SealedWire fresh = new SealedWire();
+        fresh.begin(SERVER);
+        Kit.same("INIT, INIT, REQUEST, REPLY, END, and NEW is gone", fresh.run(50), 6);
+        Kit.same("a new object trusts no host", Kit.about(fresh, CLIENT), "0 3 2 0 0 0 1 1 -1");
+        Kit.same("both have the same", Kit.session(fresh, CLIENT), Kit.session(fresh, SERVER));
+    }
+
+    /** Another host proves that it has its own secret: H is that of the row which it sent. */
+    private static void sessionWithTheRowOfReply() {
+        Kit.sentence("the host's row (that of REPLY)");
+        byte[] secret = Kit.rising(31, 32);
+        byte[] row = Oracle.publicRow(secret);
+        byte[] clientRow = Oracle.publicRow(Scene.CLIENT_SECRET);
+        byte[] serverRow = Oracle.publicRow(Scene.SERVER_SECRET);
+        byte[] h = Oracle.hash(Kit.join(Scene.CLIENT_INIT, Scene.SERVER_INIT, row, clientRow, serverRow,
+                Scene.shared(Scene.CLIENT_SECRET, Scene.SERVER_SECRET)));
+        byte[] proof = Oracle.hash(Kit.join(Oracle.multiply(secret, clientRow), h));
+        SealedWire wire = replied();
+        Scene.forge(wire, CLIENT, 0, Kit.join(Kit.bytes(31), row, serverRow, proof));
+        refused("another host", wire);
+        Kit.same("its row counts", Kit.session(wire, CLIENT), h);
+
+        SealedWire swapped = replied();
+        Scene.forge(swapped, CLIENT, 0, Kit.join(Kit.bytes(31), row));
+        refused("another row, and the proof of the first", swapped);
+        Kit.thrown("the proof was not right", () -> swapped.session(CLIENT, 0), Kit.STATE);
+        SealedWire neither = replied();
+        Kit.set(neither, 3, new byte[32]);
+        neither.damage(CLIENT, 0, 70, 1);
+        refused("an untrusted row, and another proof", neither);
+        Kit.thrown("the proof was not right", () -> neither.session(CLIENT, 31), Kit.STATE);
+    }
+
+    private static void sessionOfARefusalOnAFullWire() {
+        Kit.sentence("(What it had to do besides, as to make keys and its SESSION, is done, but it sends nothing.)");
         SealedWire wire = replied();
         Kit.set(wire, 3, new byte[32]);
-        refused("an untrusted row", wire);
-        for (int i = 0; i < 32; i++) {
-            int at = i;
-            Kit.thrown("no session, byte " + i, () -> wire.session(CLIENT, at), Kit.STATE);
+        for (int i = 0; i < 12; i++) {
+            Kit.send(wire, CLIENT, Scene.IGNORE);
         }
-        Kit.same("the server's", Kit.session(wire, SERVER), Scene.firstH());
+        Kit.same("REPLY comes", wire.come(CLIENT), 31);
+        Kit.same("END is lost", Kit.about(wire, CLIENT), "0 14 2 0 0 1 1 1 -1");
+        Kit.same("the session is made", Kit.session(wire, CLIENT), Scene.firstH());
+    }
 
-        SealedWire second = Scene.agreed();
-        Kit.set(second, 3, new byte[32]);
-        Kit.set(second, 0, Kit.rising(55, 32));
-        second.begin(CLIENT);
-        second.run(50);
-        Kit.same("refused in a second exchange", second.about(CLIENT, 0), 0);
-        Kit.same("the first session stays", Kit.session(second, CLIENT), Scene.firstH());
+    private static void sessionOfASecondRefusal() {
+        Kit.sentence("The first H that an end has (the client: if the proof was right) is its SESSION");
+        for (int what = 2; what <= 3; what++) {
+            SealedWire wire = Scene.agreed();
+            Kit.set(wire, 0, Kit.rising(55, 32));
+            // Another host, then another row that is trusted.
+            Kit.set(wire, what, new byte[32]);
+            wire.begin(CLIENT);
+            Kit.same("END goes by the keys of the first exchange", wire.run(50), 6);
+            Kit.same("it was taken as such", Kit.about(wire, SERVER), "0 6 6 0 1 0 1 1 -1");
+            Kit.same("refused in a second exchange", Kit.about(wire, CLIENT), "0 6 5 0 1 0 1 1 -1");
+            Kit.same("the first session stays", Kit.session(wire, CLIENT), Scene.firstH());
+            Kit.same("at the server, too", Kit.session(wire, SERVER), Scene.firstH());
+        }
     }
 
     private static void sessionOfAWrongProof() {

@@ -156,7 +156,7 @@ public final class ExchangeTest {
             SealedWire wire = Scene.ready();
             Kit.set(wire, 3, row);
             refused("untrusted", wire, 0);
-            Kit.thrown("no session", () -> wire.session(CLIENT, 0), Kit.STATE);
+            Kit.same("the proof was right", Kit.session(wire, CLIENT), Scene.firstH());
             Kit.same("END comes behind REQUEST", wire.come(SERVER), 1);
             Kit.same("the server ended", wire.about(SERVER, 0), 0);
         }

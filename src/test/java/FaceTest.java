@@ -76,6 +76,7 @@ public final class FaceTest {
     }
 
     private static void newObject() {
+        Kit.sentence("Both ends live, have no keys; all secrets and rows are zeros; the tape is empty");
         SealedWire wire = new SealedWire();
         for (int end = 0; end < 2; end++) {
             int who = end;

@@ -295,7 +295,11 @@ final class Model {
         byte[] h = Oracle.hash(
                 Kit.join(a.init, a.otherInit, host, Oracle.publicRow(a.taken), serverRow, shared));
         byte[] proof = Oracle.hash(Kit.join(Oracle.multiply(a.taken, host), h));
-        if (Arrays.equals(host, trusted) && Arrays.equals(proof, Arrays.copyOfRange(payload, 65, 97))) {
+        boolean right = Arrays.equals(proof, Arrays.copyOfRange(payload, 65, 97));
+        if (right && a.session == null) {
+            a.session = h;
+        }
+        if (right && Arrays.equals(host, trusted)) {
             renew(a, shared, h);
         } else {
             end(a);

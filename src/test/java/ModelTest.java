@@ -22,7 +22,7 @@ public final class ModelTest {
     }
 
     public static void main(String[] args) {
-        for (int seed = 0; seed < 500; seed++) {
+        for (int seed = 0; seed < 600; seed++) {
             new ModelTest(seed).go();
         }
         Kit.finish();
@@ -30,10 +30,24 @@ public final class ModelTest {
 
     private void go() {
         int care = random.nextInt(4);
+        boolean crowded = random.nextInt(3) == 0;
         prepare();
         while (calls < 400) {
             act(care);
+            if (crowded && random.nextInt(8) == 0) {
+                crowd(random.nextInt(2));
+            }
             look();
+        }
+        lookAtAll();
+    }
+
+    /** IGNOREs, so that there is room for two packets more, for one or for none, or one is lost. */
+    private void crowd(int end) {
+        int count = 10 + random.nextInt(4) - model.about(1 - end, 5);
+        for (int i = 0; i < count; i++) {
+            type(Kit.bytes(2));
+            both("crowd " + end, () -> wire.send(end), () -> model.send(end, Kit.bytes(2)));
         }
     }
 
@@ -169,6 +183,18 @@ public final class ModelTest {
                     break;
             }
         }
+    }
+
+    private void lookAtAll() {
+        for (int end = 0; end < 2; end++) {
+            int who = end;
+            for (int what = 0; what < 9; what++) {
+                int which = what;
+                same("about " + who + " " + which, () -> wire.about(who, which), () -> model.about(who, which));
+            }
+            same("session " + who, () -> wire.session(who, 31), () -> model.session(who, 31));
+        }
+        Kit.same(name + "is one of at most 512", calls <= 512, true);
     }
 
     private void both(String what, Kit.Call mine, Kit.Call due) {

@@ -104,7 +104,7 @@ public final class WireEdgeTest {
         lost("a thirteenth", wire, SERVER, 13);
     }
 
-    /** Begun and sent it has: the document takes only the count from a packet that is lost. */
+    /** END is not sent, but INIT is lost, and not counted: it has been begun, and 6 of about tells so. */
     private static void beginOnAFullWire() {
         Kit.sentence("the packet is lost, and it ends (END is not sent); it is not counted");
         for (int end = 0; end < 2; end++) {
